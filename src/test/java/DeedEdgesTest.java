@@ -90,6 +90,9 @@ public final class DeedEdgesTest {
         tenAreKnown();
         undoState();
         undoIsOfFourCalls();
+        undonePartsAreNone();
+        sixShipsOfSixPlaces();
+        fortyEightParts();
         imagesKeepNow();
         imagesKeepNothingElse();
         nothingUndoneBehindBack();
@@ -112,6 +115,10 @@ public final class DeedEdgesTest {
         due("part 0", x.part(0, 0), BAD);
         due("in the yard", x.now(1), 0);
         due("in the yard, of place 2", x.place(2, 2), 0);
+        due("seen", x.count(3), 0);
+        due("letters", x.count(4), 0);
+        due("the year", x.now(0), 0);
+        due("to be undone", x.now(4), 0);
         due("build()", x.build(), STATE);
         due("replace(0, 0)", x.replace(0, 0), BAD);
         due("year() without anything", x.year(), 0);
@@ -536,6 +543,96 @@ public final class DeedEdgesTest {
         due("the image of that year", x.back(1), 1);
     }
 
+    private static void undonePartsAreNone() {
+        sentence("or there is no such thing");
+        WhoseShip x = told("n3;w0 2;w1 2;w2 3;s0;s1;y2 1 0;");
+        due("place 2 of make 1", x.replace(0, 6), 2);
+        due("MORE: 0 is heavier by 4 to 3", x.becomes(0, 2, 1, -1), NONE);
+        x.fresh(0);
+        due("a new one in place 0 would make it 1's", x.becomes(0, 2, 1, 0), 7);
+        x.fresh(1);
+        due("both are undone", x.undo() + x.undo(), 3);
+        due("part 7", x.part(7, 0) + x.part(8, 0), 2 * BAD);
+        due("of place 0, 1 in the yard", x.place(0, 2) + x.place(1, 2), 0);
+        due("in the yard", x.now(1), 1);
+        due("replace()", x.replace(0, 7), BAD);
+        due("rate()", x.rate(0, 7), NO);
+        due("becomes()", x.becomes(0, 2, 1, -1), NONE);
+        due("thief()", x.thief(0, 0, 0), 1);
+        due("build()", x.build(), STATE);
+        due("a ship that is undone", x.ship(2, 0), BAD);
+        WhoseShip y = told("n2;l1 1;y0 1 0;y1 0 5;");
+        due("build()", y.build(), 0);
+        y.fresh(1);
+        due("OLDEST: a new one in place 1 makes it 1's", y.becomes(0, 3, 1, 1), 2);
+        y.undo();
+        due("not if it is undone", y.becomes(0, 3, 1, -1), NONE);
+        due("nor is it lost", y.year(), 0);
+        y.undo();
+        y.undo();
+        due("the ship is undone", y.count(1) + y.mayBe() + y.now(2), 0);
+        due("ship 0", y.is(0, 0), BAD);
+    }
+
+    private static void sixShipsOfSixPlaces() {
+        sentence("a SHIP more (6 in all at most)");
+        WhoseShip x = told("n6;s0;s1;s2;s3;");
+        for (int s = 4; s < 6; s++) {
+            for (int k = 0; k < 6; k++) {
+                x.fresh(k);
+            }
+            due("build()", x.build(), s);
+        }
+        due("keep(0)", x.keep(0), 0);
+        for (int k = 0; k < 6; k++) {
+            due("a new one", x.fresh(k), 36 + k);
+            due("replace()", x.replace(5, 36 + k), 30 + k);
+        }
+        for (int i = 9; i >= 4; i--) {
+            due("undo()", x.undo(), i);
+        }
+        due("three are replaced still", x.inPlace(5, 2), 38);
+        due("three are not", x.inPlace(5, 3), 33);
+        due("the last is not", x.inPlace(5, 5), 35);
+        due("it is in its ship", x.part(35, 3), 5);
+        due("back(0)", x.back(0), 0);
+        for (int s = 0; s < 6; s++) {
+            for (int k = 0; k < 6; k++) {
+                due("inPlace(" + s + ", " + k + ")", x.inPlace(s, k), 6 * s + k);
+            }
+        }
+        due("parts", x.count(2), 36);
+    }
+
+    private static void fortyEightParts() {
+        sentence("then new ones as they come (48 in all at most)");
+        WhoseShip x = told("n2;l0 30;l1 30;y0 1 0;y1 0 5;");
+        due("build()", x.build(), 0);
+        for (int p = 2; p < 48; p++) {
+            due("fresh(0)", x.fresh(0), p);
+        }
+        due("in the yard", x.now(1), 46);
+        due("of place 0", x.place(0, 2), 46);
+        due("of place 1", x.place(1, 2), 0);
+        due("build() without place 1", x.build(), STATE);
+        for (int law = 0; law < 5; law++) {
+            due("becomes 2's by law " + law, x.becomes(0, law, 2, -1), NONE);
+        }
+        due("OLDEST: place 1 can't yield", x.becomes(0, 3, 1, -1), NONE);
+        due("thief by KEEL", x.thief(0, 0, 0) * 10 + x.thief(0, 0, 1), 12);
+        due("rate of the last one: FORGED", x.rate(5, 47), 46);
+        due("year()", x.year(), 0);
+        due("the last one's age", x.part(47, 2), 1);
+        due("replace by the last one", x.replace(0, 47), 0);
+        due("undo()", x.undo(), 9);
+        due("keep(1)", x.keep(1), 1);
+        due("back(1)", x.back(1), 1);
+        due("the last one", x.part(47, 3), IN_YARD);
+        due("part 0 comes to the yard", x.replace(0, 46), 0);
+        due("of place 0", x.place(0, 2), 46);
+        due("thief by KEEL: one of 46 makes it 1's", x.thief(0, 0, 0) * 1000 + x.thief(0, 0, 1), 91092);
+    }
+
     private static void imagesKeepNow() {
         sentence("IMAGES 0, 1 keep NOW (the YEAR, PARTS, where each is, SHIPS)");
         WhoseShip x = told("n2;l0 2;s1;y0 1 0;y1 2 0;");
@@ -565,6 +662,12 @@ public final class DeedEdgesTest {
         same("as in image 0 now", third, now(x));
         due("back(0) again", x.back(0), 2);
         same("as in image 0 still", third, now(x));
+        due("a part of place 0", x.fresh(0), 5);
+        due("keep(1)", x.keep(1), 2);
+        due("undo()", x.undo(), 0);
+        due("another part of that number, of place 1", x.fresh(1), 5);
+        due("back(1)", x.back(1), 2);
+        due("of place 0 again", x.part(5, 0), 0);
     }
 
     private static void imagesKeepNothingElse() {

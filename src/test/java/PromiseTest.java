@@ -34,25 +34,29 @@ public final class PromiseTest {
         return x;
     }
 
-    /** Everything that can be asked without a change, so that two states can be compared. */
+    /**
+     * Everything that can be asked without a change, so that two states can be compared; no more
+     * calls than that takes, since an object is promised for 512 of them.
+     */
     private static String all(WhoseShip x) {
         StringBuilder b = new StringBuilder();
         for (int i = 0; i < 5; i++) {
             b.append(x.count(i)).append(' ').append(x.now(i)).append(' ');
         }
-        for (int k = 0; k < 6; k++) {
-            for (int w = 0; w < 3; w++) {
-                b.append(x.place(k, w)).append(' ');
-            }
+        int places = x.count(0);
+        for (int k = 0; k < places; k++) {
+            b.append(x.place(k, 0)).append(' ').append(x.place(k, 1)).append(' ');
         }
-        for (int p = 0; p < 48; p++) {
+        int parts = x.count(2);
+        for (int p = 0; p < parts; p++) {
             for (int w = 0; w < 4; w++) {
                 b.append(x.part(p, w)).append(' ');
             }
         }
-        for (int s = 0; s < 6; s++) {
-            b.append(x.ship(s, 0)).append(' ').append(x.ship(s, 1)).append(' ');
-            for (int k = 0; k < 6; k++) {
+        int ships = x.count(1);
+        for (int s = 0; s < ships; s++) {
+            b.append(x.ship(s, 0)).append(' ');
+            for (int k = 0; k < places; k++) {
                 b.append(x.inPlace(s, k)).append(' ');
             }
         }
@@ -593,7 +597,6 @@ public final class PromiseTest {
     }
 
     private static void row(WhoseShip x, int law, int make, int... want) {
-        String before = all(x);
         String call = "becomes(0, " + law + ", " + make + ", ";
         int many = 0;
         for (int k = 0; k < want.length; k++) {
@@ -601,12 +604,12 @@ public final class PromiseTest {
             many += want[k] == NO_PART ? 0 : 1;
         }
         due(call + "-1)", x.becomes(0, law, make, -1), want[0] == NONE ? NONE : many);
-        same("nothing is changed", before, all(x));
     }
 
     private static void becomes() {
         promise = "17 becomes";
         WhoseShip x = told("n3;w0 2;w1 2;w2 3;s0;s1;y2 1 0;y1 1 0;y0 1 0;y0 1 0;y0 9 0;y1 2 0;");
+        String before = all(x);
         row(x, 0, 0, NO_PART, NO_PART, NO_PART);
         row(x, 0, 1, 8, NO_PART, NO_PART);
         row(x, 0, 2, NONE, NONE, NONE);
@@ -619,6 +622,7 @@ public final class PromiseTest {
         row(x, 2, 2, NONE, NONE, NONE);
         // Half of three: two places; the least make comes first.
         row(x, 4, 1, NO_PART, 7, 6);
+        same("nothing is changed", before, all(x));
         due("becomes(0, 1, 1, 3)", x.becomes(0, 1, 1, 3), BAD);
         due("becomes(0, 1, 1, -2)", x.becomes(0, 1, 1, -2), BAD);
         due("becomes(0, 1, 4, -1)", x.becomes(0, 1, 4, -1), BAD);
@@ -648,10 +652,12 @@ public final class PromiseTest {
     private static void becomesOldest() {
         promise = "17 becomes, by OLDEST";
         WhoseShip x = told("s0;s1;l0 30;l1 30;l2 30;y2 1 0;y2 1 4;y1 1 3;y0 9 0;y0 1 0;");
+        String before = all(x);
         row(x, 3, 0, NO_PART, NO_PART, NO_PART);
         // One suffices in place 1 or 2 (or 0, since ages are alike): none stands ahead of a part.
         row(x, 3, 1, NO_PART, NO_PART, 7);
         row(x, 3, 2, NONE, NONE, NONE);
+        same("nothing is changed", before, all(x));
         x.year();
         x.year();
         // Ages 2, 2, 2 now; 5 and 6 in the yard make it 1's still.

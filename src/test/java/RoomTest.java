@@ -34,7 +34,7 @@ public final class RoomTest {
             sum += x.type(TEXT.charAt(i));
         }
         sum += x.port();
-        for (int i = 0; i < 60; i++) {
+        for (int i = 0; i < 20; i++) {
             int s = i % 5;
             int law = i % 5;
             int k = i % 6;
