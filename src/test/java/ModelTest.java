@@ -15,12 +15,16 @@ import java.util.regex.Pattern;
  * from the document anew: it tries every row, copies everything and knows nothing of speed.
  */
 public final class ModelTest {
-    private static final int RUNS = 700, CALLS = 512, MOST_WRONG = 20;
+    private static final int RUNS = 700, FULL_YARDS = 10, CALLS = 512, MOST_WRONG = 20;
+    private static final int FEW_ROWS = 20000;
     private static int wrong = 0;
 
     public static void main(String[] args) {
         for (int run = 0; run < RUNS && wrong < MOST_WRONG; run++) {
             new Run(run).go();
+        }
+        for (int run = RUNS; run < RUNS + FULL_YARDS && wrong < MOST_WRONG; run++) {
+            new Run(run).goWithFullYard();
         }
         System.out.println(wrong == 0 ? "all runs are as the model's" : wrong + " answers are not as the model's");
         if (wrong != 0) {
@@ -60,6 +64,44 @@ public final class ModelTest {
             }
             while (calls < CALLS && !over) {
                 step();
+            }
+        }
+
+        /** The other runs leave out a change with many rows to try; here every one has many. */
+        private void goWithFullYard() {
+            StringBuilder b = new StringBuilder("n6;s1;s2;");
+            for (int k = 0; k < 6; k++) {
+                b.append("l").append(k).append(" 30;w").append(k).append(" ").append(1 + upTo(8)).append(";");
+                b.append("y").append(k).append(" ").append(upTo(3)).append(" ").append(upTo(4)).append(";");
+            }
+            tell(b.toString());
+            for (int i = 0; i < 60; i++) {
+                due("fresh(" + i % 6 + ")", x.fresh(i % 6), m.fresh(i % 6));
+                replaceOne();
+                if (i % 12 == 11 && style > 1) {
+                    due("year()", x.year(), m.year());
+                }
+            }
+            if (m.rows() <= FEW_ROWS) {
+                due("many rows to try", m.rows(), FEW_ROWS + 1);
+            }
+            for (int law = 0; law < 5 && !over; law++) {
+                becomesAll(upTo(1), law, upTo(3));
+                replaceOne();
+            }
+        }
+
+        private void replaceOne() {
+            int s = upTo(1);
+            int p = partNumber();
+            due("replace(" + s + ", " + p + ")", x.replace(s, p), m.replace(s, p));
+        }
+
+        private void becomesAll(int s, int law, int make) {
+            int[] row = m.fewestFor(s, law, make);
+            for (int k = -1; k < m.n; k++) {
+                due("becomes(" + s + ", " + law + ", " + make + ", " + k + ")",
+                    x.becomes(s, law, make, k), Model.ofRow(row, k));
             }
         }
 
@@ -255,7 +297,7 @@ public final class ModelTest {
                 case 0: due("is" + at, x.is(s, law), m.is(s, law)); break;
                 case 1: due("twins(" + law + ")", x.twins(law), m.twins(law)); break;
                 case 2: case 3: case 4: {
-                    if (m.rows() > 20000) {
+                    if (m.rows() > FEW_ROWS) {
                         return;
                     }
                     int goal = upTo(30) == 0 ? make : upTo(3);
@@ -596,9 +638,25 @@ public final class ModelTest {
             if (noShip(s) || noLaw(law) || make < 0 || make > 3 || k < -1 || k >= n) {
                 return -1;
             }
+            return ofRow(fewestFor(s, law, make), k);
+        }
+
+        /** How many are replaced (k is -1), or the part for a place; there may be no row. */
+        private static int ofRow(int[] row, int k) {
+            if (row == null) {
+                return -9;
+            }
+            return k == -1 ? (int) Arrays.stream(row).filter(p -> p != -5).count() : row[k];
+        }
+
+        private int[] fewestFor(int s, int law, int make) {
             int[] best = null;
             int fewest = 99;
             int rows = rows();
+            List<List<Integer>> yards = new ArrayList<>();
+            for (int place = 0; place < n; place++) {
+                yards.add(yard(place));
+            }
             for (int number = 0; number < rows; number++) {
                 int[] row = new int[n];
                 List<Part> parts = partsOf(s);
@@ -606,7 +664,7 @@ public final class ModelTest {
                 int replaced = 0;
                 // Place 0 turns slowest, so that rows come in their order.
                 for (int place = n - 1; place >= 0; place--) {
-                    List<Integer> lie = yard(place);
+                    List<Integer> lie = yards.get(place);
                     int choice = rest % (lie.size() + 1);
                     rest /= lie.size() + 1;
                     row[place] = choice == 0 ? -5 : lie.get(choice - 1);
@@ -620,7 +678,7 @@ public final class ModelTest {
                     best = row;
                 }
             }
-            return best == null ? -9 : k == -1 ? fewest : best[k];
+            return best;
         }
 
         /** The ship a year on, all that is rotten made new. */
